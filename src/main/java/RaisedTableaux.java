@@ -340,11 +340,14 @@ public final class RaisedTableaux {
 
     public int together(int shape, int other, int third) {
         if (!firstShape.isTold(shape, now.n) || !secondShape.isTold(other, now.n)
-                || !thirdShape.isTold(third, now.n) || firstShape.size + secondShape.size > MOST_LETTERS) {
+                || !thirdShape.isTold(third, now.n)) {
             return BAD;
         }
-        if (firstShape.size + secondShape.size != thirdShape.size
-                || !fillings.allowDifference(thirdShape, firstShape)) {
+        int size = firstShape.size + secondShape.size;
+        if (size > MOST_LETTERS) {
+            return BAD;
+        }
+        if (size != thirdShape.size || !fillings.allowDifference(thirdShape, firstShape)) {
             return 0;
         }
         fillings.worthOneEach();

@@ -158,6 +158,7 @@ public final class PromisesTest {
         RaisedTableaux five = withLetters(5);
         due("5: five rows", told(five, 0, "11/2/3/4/5"), 6);
         due("5: no sixth row", told(five, 0, "1/2/3/4/5/5"), -110);
+        due("5: a longer row, first of all", told(new RaisedTableaux(), 0, "1/22"), -103);
         due("5: sixty bytes", told(five, 0, "1" + " ".repeat(58) + "2"), 2);
         due("5: sixty bytes, more must come", told(five, 0, "1" + " ".repeat(58) + "/"), -160);
     }
@@ -401,6 +402,11 @@ public final class PromisesTest {
         told(five, 0, "1111/22");
         due("14: most", five.all(0, -1), 420);
         due("14: the last of most", five.all(0, 419), 554455);
+        x.word(3, 111);
+        due("14: three alike", x.all(3, -1), 10);
+        x.word(3, 11);
+        due("14: two alike", x.all(3, -1), 6);
+        due("14: first of two alike", x.all(3, 0), 11);
         five.letters(2);
         told(five, 0, "1111/22");
         due("14: by fewer letters", five.all(0, -1), 3);
@@ -606,13 +612,16 @@ public final class PromisesTest {
         RaisedTableaux two = withLetters(2);
         two.worth(1, 0);
         two.worth(2, 36);
-        due("24: below the bound", two.worthOf(6), RaisedTableaux.OVER);
+        due("24: 36 to the 6th", two.worthOf(6), RaisedTableaux.OVER);
         two.worth(2, 35);
         due("24: 35 to the 6th", two.worthOf(6), 1838265625);
         two.worth(2, 73);
         due("24: 73 to the 5th", two.worthOf(5), 2073071593);
         two.worth(2, 74);
         due("24: 74 to the 5th", two.worthOf(5), RaisedTableaux.OVER);
+        two.worth(1, 64);
+        two.worth(2, 64);
+        due("24: one above the bound", two.worthOf(32), RaisedTableaux.OVER);
         RaisedTableaux five = withLetters(5);
         due("24: as many as there are", five.worthOf(42), 420);
         for (int letter = 1; letter <= 5; letter++) {
