@@ -79,6 +79,11 @@ public final class BoundaryActsTest {
         signs(121212, 1, 1);
         signs(211, 1, 0);
         signs(221, 0, 1);
+        RaisedTableaux x = holding(5, 112);
+        due("low", x.signs(0, 1, 0), 2);
+        due("low, asked again", x.signs(0, 1, 0), 2);
+        due("high", x.signs(0, 1, 1), 1);
+        due("high, asked again", x.signs(0, 1, 1), 1);
         // other letters between them do not matter
         signs(253414, 0, 0);
         signs(345345, 0, 0);
@@ -188,6 +193,11 @@ public final class BoundaryActsTest {
         Edges.told(x, 0, "1/2/3");
         due("a column turned into itself", x.act(0, TURN, 0, 1), 0);
         due("has its rows", x.row(1, 2), 3);
+        // reads 211, turned 332, of which comes 23/3
+        Edges.told(x, 0, "11/2");
+        due("another one", x.act(0, TURN, 0, 1), 1);
+        due("is inserted", x.row(1, 0), 23);
+        due("in its rows", x.row(1, 1), 3);
     }
 
     /** "comes into a SLOT (that one, too)". */
@@ -299,6 +309,10 @@ public final class BoundaryActsTest {
             done(2, 0, "  " + name + "  1  ;  ", 0, 0);
             faulty("a NAME without its last letter", 2, name.substring(0, name.length() - 1) + "1;", 0);
             faulty("a NAME with one more", 2, name + "s1;", 0);
+            for (int k = 0; k < name.length(); k++) {
+                String other = name.substring(0, k) + "q" + name.substring(k + 1);
+                faulty("a NAME with another letter", 2, other + "1;", 0);
+            }
         }
         done(2, 0, "  turn  ;  ", 0, 0);
     }
@@ -379,12 +393,30 @@ public final class BoundaryActsTest {
         due("all of 12", x.all(0, -1), 3);
         due("all of 21", x.all(1, -1), 1);
         due("all of 112", x.all(2, -1), 4);
+        x.word(1, 11);
+        x.word(2, 111);
+        due("all of 111", x.all(2, -1), 4);
+        due("all of 11 behind it", x.all(1, -1), 3);
         x.letters(3);
+        x.word(0, 11);
+        due("all of 11 by three letters", x.all(0, -1), 6);
         x.word(0, 12);
-        due("all of 12 by three letters", x.all(0, -1), 6);
         due("a member is none less", x.act(0, RAISE, 1, 0), 1);
         due("all of 11", x.all(0, -1), 6);
         due("the first stands first", x.stands(0), 0);
+    }
+
+    /** "Which one a THING is in ALL OF IT": from the first to the last, whatever was asked ahead. */
+    private static void eachStandsInItsPlace() {
+        due("the last, asked first of all", holding(2, 222222).stands(0), 6);
+        due("one alone", holding(3, 321).stands(0), 0);
+        refused("a word of none", x -> x.stands(2), 0);
+        refused("a tableau of none", x -> x.stands(3), 0);
+        RaisedTableaux x = holding(5, 333333);
+        for (int place = 0; place < 100; place++) {
+            x.word(1, x.all(0, place));
+            due("the one that stands there", x.stands(1), place);
+        }
     }
 
     /** WAY of none that can be lowered, and the longest. */
@@ -459,6 +491,7 @@ public final class BoundaryActsTest {
         highestIsAsked0To2();
         allHasAnEnd();
         familiesOfOthers();
+        eachStandsInItsPlace();
         wayFrom0To24();
         pairs();
         pairsThatMeet();

@@ -423,6 +423,27 @@ public final class BoundaryRowsTest {
         due("it is the latest then", x.again(), 18);
     }
 
+    /** "SLOTS, WORTHS": from the first of them to the last. */
+    private static void allSlotsAndWorthsAreKept() {
+        RaisedTableaux x = Edges.withLetters(5);
+        for (int letter = 1; letter <= 5; letter++) {
+            x.worth(letter, 90 + letter);
+            x.word(letter, 111 * letter);
+        }
+        Edges.told(x, 0, "11/2/3/4/5");
+        x.keep();
+        for (int letter = 1; letter <= 5; letter++) {
+            x.worth(letter, 0);
+        }
+        x.letters(2);
+        due("letters of all things", x.again(), 6 + 5 * 3);
+        due("the tableau in the first slot", x.row(0, 4), 5);
+        for (int letter = 1; letter <= 5; letter++) {
+            due("a worth", x.worth(letter, 0), 90 + letter);
+            due("a word", x.of(letter, 2), 111 * letter);
+        }
+    }
+
     /** "n, SLOTS, WORTHS, z are kept": the tape and sheets are not. */
     private static void whatIsNotKept() {
         RaisedTableaux x = Edges.after(Edges::rich);
@@ -461,6 +482,7 @@ public final class BoundaryRowsTest {
         manyIsAsked0To3();
         nothingIsKept();
         theLatestStays();
+        allSlotsAndWorthsAreKept();
         whatIsNotKept();
         EDGES.end();
     }

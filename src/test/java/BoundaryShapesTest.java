@@ -108,6 +108,14 @@ public final class BoundaryShapesTest {
         due("a tableau and what it reads", x.alike(1, 5), 1);
         x.word(5, 1);
         due("one letter less", x.alike(4, 5), 0);
+        due("one letter more", x.alike(5, 4), 0);
+        x.word(4, 2);
+        due("another letter alone", x.alike(5, 4), 0);
+        x.word(4, 34);
+        x.word(5, 24);
+        due("another first letter", x.alike(4, 5), 0);
+        x.word(5, 33);
+        due("another last letter", x.alike(4, 5), 0);
     }
 
     // ---- shapes
@@ -222,6 +230,38 @@ public final class BoundaryShapesTest {
         refused("a column in rows", x -> x.together(111, 1, 31), 0);
         refused("a column made longer", x -> x.together(111, 1, 1111), 1);
         refused("the last row that there can be", x -> x.together(11, 11, 1111), 1);
+        RaisedTableaux five = Edges.withLetters(5);
+        due("a fifth row", five.together(1111, 1, 11111), 1);
+        due("a fifth row that stays", five.together(11111, 1, 21111), 1);
+        due("a fifth row that the third has not", five.together(11111, 0, 2111), 0);
+        due("a fifth row that the second has", five.together(1, 11111, 21111), 1);
+    }
+
+    /** "make a WORD that can't be raised": the READ of the first one stands behind. */
+    private static void togetherCanNotBeRaised() {
+        // of 12 21 the last two are struck out, and the first 2 is left
+        refused("12 21 can be raised", x -> x.together(11, 2, 22), 0);
+        refused("21 11 can't", x -> x.together(2, 11, 31), 1);
+        refused("32 11 can't", x -> x.together(2, 11, 211), 1);
+        refused("two ways", x -> x.together(21, 21, 321), 2);
+        refused("one way", x -> x.together(21, 21, 222), 1);
+        refused("no way", x -> x.together(21, 21, 51), 0);
+    }
+
+    /** What one call was told is nothing to the next one. */
+    private static void oneShapeBehindTheOther() {
+        RaisedTableaux x = Edges.withLetters(5);
+        due("long ones", x.together(111, 111, 21111), 1);
+        due("short ones behind them", x.together(2, 2, 31), 1);
+        due("none behind them", x.together(0, 0, 0), 1);
+        due("a long one behind none", x.together(0, 21111, 21111), 1);
+        due("a count behind it", x.count(2, 10001), 1);
+        due("worth behind it", x.worthOf(2), 15);
+        due("a refused one", x.together(111, 12, 21), BAD);
+        due("a count behind that", x.count(11, 11000), 1);
+        due("a refused content", x.count(2, 90000), BAD);
+        due("worth behind that", x.worthOf(11), 10);
+        due("one row behind it", x.together(1, 1, 2), 1);
     }
 
     // ---- promises 23 and 24
@@ -300,6 +340,8 @@ public final class BoundaryShapesTest {
         countOfUnlikeSizes();
         togetherHave6();
         togetherOfOtherSizes();
+        togetherCanNotBeRaised();
+        oneShapeBehindTheOther();
         worths();
         worthsThatAreTooGreat();
         worthsOfNone();

@@ -137,13 +137,27 @@ public final class BoundaryThingsTest {
         EDGES.refusedForEach("0 and 9 are no letters", wrong, Edges::rich, (x, d) -> x.word(0, d), BAD);
     }
 
-    /** "A SLOT holds a WORD": whatever it held. */
+    /** "A SLOT holds a WORD": whatever it held; "how many rows (of a WORD 0)". */
     private static void aWordInPlaceOfATableau() {
+        isAWordOfOne("word", x -> x.word(1, 4), 4);
+        // 51365 is drawn from 77
+        isAWordOfOne("lot", x -> x.lot(1, 1), 2);
+        isAWordOfOne("take", x -> x.take(0, 3, 1, 1), 4);
+        isAWordOfOne("act", x -> {
+            x.word(4, 3);
+            return x.act(4, 1, 3, 1);
+        }, 4);
+    }
+
+    private static void isAWordOfOne(String call, Edges.Call made, int read) {
         RaisedTableaux x = Edges.after(Edges::rich);
-        due("a word for a tableau", x.word(1, 4), 1);
-        due("is no tableau", x.row(1, 0), UNLIKE);
-        due("has no rows", x.of(1, 4), 0);
-        due("has its own letter alone", x.of(1, 2), 4);
+        // a tableau was moved right ahead of it
+        x.act(1, 5, 0, 5);
+        made.on(x);
+        due(call + " makes no tableau", x.row(1, 0), UNLIKE);
+        due(call + " makes no rows", x.of(1, 4), 0);
+        due(call + " makes one letter", x.of(1, 1), 1);
+        due(call + " makes its own letter alone", x.of(1, 2), read);
     }
 
     // ---- promise 4

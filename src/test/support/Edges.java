@@ -116,6 +116,7 @@ final class Edges {
         x.worth(5, 55);
         x.seed(555);
         x.keep();
+        x.worth(5, 15);
         x.letters(4);
         x.word(0, 213142);
         told(x, 1, "112/23/4");
