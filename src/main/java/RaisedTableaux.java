@@ -1170,7 +1170,6 @@ public final class RaisedTableaux {
         private final int[] worths = new int[GREATEST_N + 1];
         /** The letters row by row, the highest row first. */
         private final int[] cells = new int[MOST_LETTERS];
-        private Shape shape;
         private int n;
         /** Behind what is read of each tableau, where only those count that are highest so. */
         private Shape behind;
@@ -1222,41 +1221,39 @@ public final class RaisedTableaux {
         }
 
         long sum(Shape shape, int n) {
-            this.shape = shape;
             this.n = n;
             behind = null;
-            return sumFrom(this, 0, 0, 0, 1L);
+            return sumFrom(this, shape, 0, 0, 0, 1L);
         }
 
         int countHighest(Shape shape, Shape behind, Moves moves, int n) {
-            this.shape = shape;
             this.n = n;
             this.behind = behind;
             this.moves = moves;
-            return (int) sumFrom(this, 0, 0, 0, 1L);
+            return (int) sumFrom(this, shape, 0, 0, 0, 1L);
         }
 
         /** The worths of all that can be made of the cells so far, of which there are as many as told. */
-        private static long sumFrom(Fillings f, int cell, int row, int column, long product) {
-            if (cell >= f.shape.size || cell >= MOST_LETTERS) {
-                return f.counts() ? product : 0L;
+        private static long sumFrom(Fillings f, Shape shape, int cell, int row, int column, long product) {
+            if (cell >= shape.size || cell >= MOST_LETTERS) {
+                return f.counts(shape) ? product : 0L;
             }
-            if (column >= f.shape.lengthOf(row)) {
-                return row < f.shape.rows ? sumFrom(f, cell, row + 1, 0, product) : 0L;
+            if (column >= shape.lengthOf(row)) {
+                return row < shape.rows ? sumFrom(f, shape, cell, row + 1, 0, product) : 0L;
             }
             long sum = 0L;
-            for (int letter = f.leastLetter(cell, row, column); letter <= f.n; letter++) {
+            for (int letter = f.leastLetter(shape, cell, row, column); letter <= f.n; letter++) {
                 if (f.allowed[letter] > 0) {
                     f.allowed[letter]--;
                     f.cells[cell] = letter;
-                    sum += sumFrom(f, cell + 1, row, column + 1, product * f.worths[letter]);
+                    sum += sumFrom(f, shape, cell + 1, row, column + 1, product * f.worths[letter]);
                     f.allowed[letter]++;
                 }
             }
             return sum;
         }
 
-        private int leastLetter(int cell, int row, int column) {
+        private int leastLetter(Shape shape, int cell, int row, int column) {
             int least = 1;
             if (column > 0) {
                 least = cells[cell - 1];
@@ -1267,15 +1264,15 @@ public final class RaisedTableaux {
             return least;
         }
 
-        private boolean counts() {
+        private boolean counts(Shape shape) {
             if (behind == null || moves == null) {
                 return true;
             }
-            joinBehind();
+            join(shape, behind);
             return moves.isHighest(joined, n);
         }
 
-        private void joinBehind() {
+        private void join(Shape shape, Shape behind) {
             joined.becomeWordOf(shape.size + behind.size);
             int end = shape.size;
             int p = 0;
